@@ -163,7 +163,7 @@ public final class WaterMeadows {
             return FULL;
         }
         for (int i = 0; i < n; i++) {
-            passHour();
+            advance();
         }
         return hourNow;
     }
@@ -277,7 +277,7 @@ public final class WaterMeadows {
         return deeds >= MOST_DEEDS;
     }
 
-    private void passHour() {
+    private void advance() {
         real.passHour(hourNow);
         judgeHour();
         // Also for hatches still to come: their streams must bring along what came before them.

@@ -219,12 +219,13 @@ public final class AnswersTest {
         y.open(0, 4);
         y.open(1, 1);
         y.air(-1);
-        for (int i = 0; i < 10; i++) {
+        // 1000 carried would shut a width of 1, were it not dug ahead of that.
+        for (int i = 0; i < 12; i++) {
             y.hours(100);
             y.dig(1);
         }
-        check.due("15: dug without the other too", y.without(0, 3), 2000);
-        check.due("15: which takes 1 each hour", y.without(0, 0), 1000 * 49);
+        check.due("15: dug without the other too", y.without(0, 3), 2400);
+        check.due("15: which takes 1 each hour", y.without(0, 0), 1200 * 49);
     }
 
     private static void withoutOfAHatchThatCameLate() {

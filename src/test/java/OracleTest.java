@@ -89,7 +89,8 @@ public final class OracleTest {
         void say(String name, int a, int b, int c) {
             calls.append(name).append('(').append(a).append(", ").append(b).append(", ").append(c).append(") ");
             int want = oracle.answer(name, a, b, c);
-            check.due("seed " + seed + ": the last of " + (check.hasWrong() ? "" : calls), ask(name, a, b, c), want);
+            int got = ask(name, a, b, c);
+            check.due(got == want ? name : "seed " + seed + ": the last of " + calls, got, want);
         }
 
         int ask(String name, int a, int b, int c) {
