@@ -107,8 +107,8 @@ public final class FaceTest {
     private static void longestRun() {
         int[] edges = {Integer.MIN_VALUE, -101, -100, -21, -2, -1, 0, 1, 2, 3, 4, 5, 6, 7, 8, 24, 25,
             50, 51, 59, 60, 61, 89, 90, 200, 201, 1000, 1001, 2399, 2400, 2401, Integer.MAX_VALUE};
+        askAll(new WaterMeadows(), edges);
         WaterMeadows x = new WaterMeadows();
-        askAll(x, edges);
         for (int h = 0; h < 6; h++) {
             x.hatch(h % 4, 200, 4);
             x.open(h, 4);
@@ -117,9 +117,10 @@ public final class FaceTest {
         for (int i = 0; i < 12; i++) {
             x.hours(200);
         }
-        askAll(x, edges);
         check.due("all that was brought", x.stream(2), 2400000);
         check.due("brought is drunk or comes to the mill", x.stream(3) + x.stream(4), x.stream(2));
+        // Far more than 512 calls: what they answer is free, but none may throw.
+        askAll(x, edges);
     }
 
     private static void askAll(WaterMeadows x, int[] edges) {
