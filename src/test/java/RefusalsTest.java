@@ -33,6 +33,7 @@ public final class RefusalsTest {
         rightFromAndAheadOf();
         rightFromBelowAheadOf();
         deedsAreNinety();
+        digAsThe91stLeavesAllSilt();
         sixHatchesAndNinetyDeeds();
         refusedCallsAreNoDeeds();
         badIsAheadOfFull();
@@ -297,6 +298,20 @@ public final class RefusalsTest {
     private static void meadowWithAllDeeds(WaterMeadows x) {
         meadow(x);
         fillDeeds(x, 90);
+    }
+
+    /** Both carriers are shut by silt, as it is and without the other: one that were dug would take again. */
+    private static void digAsThe91stLeavesAllSilt() {
+        Twins.Story silted = x -> {
+            for (int h = 0; h < 2; h++) {
+                x.hatch(h, 1, 1);
+                x.open(h, 4);
+            }
+            goTo(x, 1001);
+            check.due("6: silted at 90 DEEDS", x.told(0, 6) + x.told(1, 6), 0);
+            fillDeeds(x, 90);
+        };
+        refused("6: dig as the 91st, of a silted HATCH", silted, (x, n) -> x.dig(n), FULL, 0, 1);
     }
 
     private static void sixHatchesAndNinetyDeeds() {
