@@ -1,4 +1,5 @@
 import java.io.IOException;
+import java.lang.reflect.Array;
 import java.lang.reflect.Constructor;
 import java.lang.reflect.Field;
 import java.lang.reflect.Method;
@@ -6,7 +7,11 @@ import java.lang.reflect.Modifier;
 import java.nio.charset.StandardCharsets;
 import java.nio.file.Files;
 import java.nio.file.Path;
+import java.util.ArrayDeque;
 import java.util.Arrays;
+import java.util.Collections;
+import java.util.Deque;
+import java.util.IdentityHashMap;
 import java.util.Set;
 import java.util.TreeSet;
 import java.util.regex.Matcher;
@@ -26,12 +31,14 @@ public final class FaceTest {
 
     private static final Check check = new Check("FaceTest");
 
-    public static void main(String[] args) throws IOException {
+    public static void main(String[] args) throws Exception {
         constants();
         members();
         classesInside();
         source();
+        lengths();
         longestRun();
+        room();
         check.end();
     }
 
@@ -60,7 +67,8 @@ public final class FaceTest {
             if (!Modifier.isPrivate(f.getModifiers())) {
                 fields.add(f.getName());
             }
-            check.holds(f + " is final if it is static", !Modifier.isStatic(f.getModifiers()) || Modifier.isFinal(f.getModifiers()));
+            check.holds(f + " is a constant of int if it is static", !Modifier.isStatic(f.getModifiers())
+                || Modifier.isFinal(f.getModifiers()) && f.getType() == int.class);
         }
         check.holds("the fields are the document's: " + fields, fields.equals(Set.of("BAD", "NO", "FULL", "NONE")));
         Constructor<?>[] constructors = face.getDeclaredConstructors();
@@ -75,6 +83,7 @@ public final class FaceTest {
             faceNames.add(method.substring(0, method.indexOf(' ')));
         }
         checkPrivateNames(WaterMeadows.class, faceNames);
+        check.holds("some twelve classes at most", WaterMeadows.class.getDeclaredClasses().length <= 11);
         for (Class<?> inside : WaterMeadows.class.getDeclaredClasses()) {
             check.holds(inside + " is static", Modifier.isStatic(inside.getModifiers()));
             check.holds(inside + " is not public", !Modifier.isPublic(inside.getModifiers()));
@@ -101,6 +110,18 @@ public final class FaceTest {
         }
         check.holds("no lambda and no method reference", !code.contains("->") && !code.contains("::"));
         check.holds("no text", code.indexOf('"') < 0);
+    }
+
+    /** Rule 11, by the way the source is set: a method's head and its last brace stand in one column. */
+    private static void lengths() throws IOException {
+        Matcher method = Pattern.compile("(?ms)^( {4}| {8})(\\w[^;={}\n]*\\)) \\{\n(.*?)^\\1\\}").matcher(
+            Files.readString(SOURCE, StandardCharsets.ISO_8859_1));
+        int methods = 0;
+        while (method.find()) {
+            methods++;
+            check.holds(method.group(2) + " is some sixty lines at most", method.group(3).lines().count() <= 60);
+        }
+        check.holds("methods were found", methods > METHODS.length);
     }
 
     /** Rule 7 for the dearest run: all hatches, all hours, every number that int has an edge at. */
@@ -137,5 +158,60 @@ public final class FaceTest {
                 }
             }
         }
+    }
+
+    /** Rule 12: what an object takes is small, and all of it is made by its constructor. */
+    private static void room() throws IllegalAccessException {
+        WaterMeadows x = new WaterMeadows();
+        Set<Object> first = madeOf(x);
+        check.holds("objects and arrays: " + first.size(), first.size() <= 100);
+        check.holds("fields and elements: " + sizeOf(first), sizeOf(first) <= 2000);
+        for (int i = 0; i < 90; i++) {
+            x.hatch(i % 4, 200, 4);
+            x.open(i % 6, 4);
+            x.sheep(i % 6, i % 4, 50);
+            x.right(1000, 0, 24);
+            x.dig(i % 6);
+        }
+        for (int i = 0; i < 12; i++) {
+            x.hours(200);
+            x.without(i % 6, i % 6);
+        }
+        Set<Object> last = madeOf(x);
+        check.holds("a whole run adds no object and takes none", first.containsAll(last) && last.containsAll(first));
+    }
+
+    private static Set<Object> madeOf(Object root) throws IllegalAccessException {
+        Set<Object> seen = Collections.newSetFromMap(new IdentityHashMap<>());
+        Deque<Object> open = new ArrayDeque<>();
+        open.add(root);
+        while (!open.isEmpty()) {
+            Object o = open.remove();
+            if (!seen.add(o)) {
+                continue;
+            }
+            if (o instanceof Object[] parts) {
+                Arrays.stream(parts).filter(p -> p != null).forEach(open::add);
+            } else if (!o.getClass().isArray()) {
+                for (Field f : o.getClass().getDeclaredFields()) {
+                    if (!Modifier.isStatic(f.getModifiers()) && !f.getType().isPrimitive()) {
+                        f.setAccessible(true);
+                        if (f.get(o) != null) {
+                            open.add(f.get(o));
+                        }
+                    }
+                }
+            }
+        }
+        return seen;
+    }
+
+    private static long sizeOf(Set<Object> objects) {
+        long size = 0;
+        for (Object o : objects) {
+            size += o.getClass().isArray() ? Array.getLength(o)
+                : Arrays.stream(o.getClass().getDeclaredFields()).filter(f -> !Modifier.isStatic(f.getModifiers())).count();
+        }
+        return size;
     }
 }
